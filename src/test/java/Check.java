@@ -1,0 +1,150 @@
+/** Counts what is not as it is due, and types, compiles and merges texts for the tests. */
+final class Check {
+    static final String INDEX = "IndexOutOfBoundsException";
+    static final String ARGUMENT = "IllegalArgumentException";
+    static final String UNSUPPORTED = "UnsupportedOperationException";
+    static final String STATE = "IllegalStateException";
+    static final String ELEMENT = "NoSuchElementException";
+
+    interface Call {
+        Object answer();
+    }
+
+    private static int wrong = 0;
+    private static int looked = 0;
+
+    private Check() {
+    }
+
+    static void due(String what, Object want, Object got) {
+        looked++;
+        if (!String.valueOf(want).equals(String.valueOf(got))) {
+            wrong++;
+            System.out.println(clip(what) + ": answered " + clip(got) + ", due is " + clip(want));
+        }
+    }
+
+    private static String clip(Object given) {
+        String text = String.valueOf(given);
+        return text.length() <= 160 ? text : text.substring(0, 150) + ".. of " + text.length();
+    }
+
+    /** The answer as a text, or the plain name of the exception that was thrown. */
+    static String answer(Call call) {
+        try {
+            return String.valueOf(call.answer());
+        } catch (RuntimeException e) {
+            return e.getClass().getSimpleName();
+        }
+    }
+
+    static void end() {
+        System.out.println(wrong == 0 ? looked + " answers are as due" : wrong + " answers are not as due");
+        System.exit(wrong == 0 ? 0 : 1);
+    }
+
+    /** Types the text in pieces of eight bytes; characters are bytes 0 to 255. */
+    static MergeDesk type(MergeDesk desk, String text) {
+        for (int from = 0; from < text.length(); from += 8) {
+            int n = Math.min(8, text.length() - from);
+            long w = 0;
+            for (int i = n - 1; i >= 0; i--) {
+                w = w << 8 | text.charAt(from + i);
+            }
+            due("type", true, desk.type(w, n));
+        }
+        return desk;
+    }
+
+    static String table(MergeDesk desk, String text) {
+        type(desk, text);
+        return answer(desk::table);
+    }
+
+    static String record(MergeDesk desk, int table, String text) {
+        type(desk, text);
+        return answer(() -> desk.record(table));
+    }
+
+    static String cell(MergeDesk desk, int table, int record, int column, String text) {
+        type(desk, text);
+        return answer(() -> {
+            desk.cell(table, record, column);
+            return "void";
+        });
+    }
+
+    static String drop(MergeDesk desk, int table, int record) {
+        return answer(() -> {
+            desk.drop(table, record);
+            return "void";
+        });
+    }
+
+    static String number(MergeDesk desk, int table, int record, int column) {
+        return answer(() -> desk.number(table, record, column));
+    }
+
+    static int compile(MergeDesk desk, String template) {
+        return type(desk, template).compile();
+    }
+
+    static String variable(MergeDesk desk, String name) {
+        type(desk, name);
+        return answer(desk::variable);
+    }
+
+    static String out(MergeDesk desk) {
+        StringBuilder out = new StringBuilder();
+        for (int i = 0; i < desk.size(); i++) {
+            out.append((char) desk.out(i));
+        }
+        return out.toString();
+    }
+
+    /** The template must compile and merge without a fault, into just this text. */
+    static void prints(MergeDesk desk, String template, String want) {
+        due("compile " + template, 0, compile(desk, template));
+        due("merge " + template, want.length(), answer(desk::merge));
+        due("out of " + template, want, out(desk));
+    }
+
+    /** The template must compile and end with this fault at this place, behind just this text. */
+    static void faults(MergeDesk desk, String template, int fault, int place, String before) {
+        due("compile " + template, 0, compile(desk, template));
+        due("merge " + template, -(10000 * fault + place), answer(desk::merge));
+        due("out of " + template, before, out(desk));
+    }
+
+    /** The template must be refused at this place. */
+    static void refuses(String template, int place) {
+        MergeDesk desk = new MergeDesk();
+        due("compile " + template, place + 1, compile(desk, template));
+        due("tags of " + template, 0, desk.about(2));
+        due("merge of " + template, STATE, answer(desk::merge));
+    }
+
+    static void accepts(String template, int tags) {
+        MergeDesk desk = new MergeDesk();
+        due("compile " + template, 0, compile(desk, template));
+        due("tags of " + template, tags, desk.about(2));
+    }
+
+    /** Items, lines and a tax, as an invoice has them. */
+    static MergeDesk shop() {
+        MergeDesk desk = new MergeDesk();
+        due("item", 0, table(desk, "item no name price"));
+        due("line", 1, table(desk, "line no qty"));
+        due("tax", 2, table(desk, "tax rate"));
+        String[] items = {"1;Pen;150", "2;Ink;2999", "3;;-5"};
+        String[] lines = {"2;3", "1;10", "2;1", "9;9"};
+        for (int i = 0; i < items.length; i++) {
+            due("item " + i, i, record(desk, 0, items[i]));
+        }
+        for (int i = 0; i < lines.length; i++) {
+            due("line " + i, i, record(desk, 1, lines[i]));
+        }
+        due("tax 0", 0, record(desk, 2, "19"));
+        return desk;
+    }
+}
