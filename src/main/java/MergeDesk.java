@@ -806,26 +806,24 @@ public final class MergeDesk {
             if (part.name == NO_NAME) {
                 return false;
             }
-            if (!isAt('}') && !readMatch(part)) {
-                return false;
+            if (!isAt('}')) {
+                if (!pass(' ')) {
+                    return false;
+                }
+                part.column = readName();
+                if (part.column == NO_NAME || !pass('=')) {
+                    return false;
+                }
+                part.expr = readExpr(1);
+                if (part.expr == null) {
+                    return false;
+                }
             }
             if (!pass('}')) {
                 return false;
             }
             appendBlock(part);
             return true;
-        }
-
-        private boolean readMatch(Part part) {
-            if (!pass(' ')) {
-                return false;
-            }
-            part.column = readName();
-            if (part.column == NO_NAME || !pass('=')) {
-                return false;
-            }
-            part.expr = readExpr(1);
-            return part.expr != null;
         }
 
         private boolean readPrint(int start) {

@@ -47,13 +47,18 @@ final class Check {
     static MergeDesk type(MergeDesk desk, String text) {
         for (int from = 0; from < text.length(); from += 8) {
             int n = Math.min(8, text.length() - from);
-            long w = 0;
-            for (int i = n - 1; i >= 0; i--) {
-                w = w << 8 | text.charAt(from + i);
-            }
-            due("type", true, desk.type(w, n));
+            due("type", true, desk.type(packed(text, from, n), n));
         }
         return desk;
+    }
+
+    /** The n characters from there on as type takes them, the first as the lowest byte. */
+    static long packed(String text, int from, int n) {
+        long w = 0;
+        for (int i = n - 1; i >= 0; i--) {
+            w = w << 8 | text.charAt(from + i);
+        }
+        return w;
     }
 
     static String table(MergeDesk desk, String text) {
