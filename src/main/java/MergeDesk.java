@@ -379,7 +379,8 @@ public final class MergeDesk {
         }
 
         static boolean isTagWord(long packed) {
-            return packed == TAG_EACH || packed == TAG_END || packed == TAG_IF || packed == TAG_ELSE || packed == TAG_LET;
+            return packed == TAG_EACH || packed == TAG_END || packed == TAG_IF || packed == TAG_ELSE
+                    || packed == TAG_LET;
         }
 
         static boolean isDigit(char c) {
@@ -634,7 +635,6 @@ public final class MergeDesk {
                 goesOn = fail(end);
             }
             if (!goesOn) {
-                first = null;
                 tags = 0;
             }
             stands = goesOn;
@@ -645,7 +645,6 @@ public final class MergeDesk {
             text = source;
             end = Math.min(source.length, MAX_TEMPLATE);
             place = 0;
-            wrong = 0;
             first = null;
             last = null;
             tags = 0;
@@ -1303,7 +1302,6 @@ public final class MergeDesk {
             evaluator.begin(given);
             length = 0;
             done = 0;
-            place = 0;
             int fault = mergeChain(first);
             return fault == FINE ? length : -(FAULT_UNIT * fault + place);
         }

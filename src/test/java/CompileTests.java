@@ -224,6 +224,16 @@ public final class CompileTests {
         Check.refuses("{(((((((a-1-(2))))))))}", 12);
         Check.refuses("{1+--------1}", 10);
         Check.accepts("{-------1*-------1--------1}", 1);
+        Check.accepts("{let a=-------1}", 1);
+        Check.refuses("{let a=--------1}", 14);
+        Check.accepts("{if -------1}{end}", 2);
+        Check.refuses("{if --------1}{end}", 11);
+        Check.accepts("{each a b=-------1}{end}", 2);
+        Check.refuses("{each a b=--------1}{end}", 17);
+        Check.accepts("{f(1,------1)}", 1);
+        Check.refuses("{f(1,-------1)}", 11);
+        Check.accepts("{f(1,f(1,f(1,f(1,f(1,f(1,f(1,2)))))))}", 1);
+        Check.refuses("{f(1,f(1,f(1,f(1,f(1,f(1,f(1,(2))))))))}", 29);
     }
 
     private static void functions() {

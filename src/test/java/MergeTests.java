@@ -151,6 +151,9 @@ public final class MergeTests {
         Check.prints(desk, "{pct(100,-999999999999999-1)}", "-" + MOST);
         Check.faults(desk, "{pct(999999999999999+1,101)}", 3, 0, "");
         Check.faults(desk, "{pct(100000000000001,1000)}", 3, 0, "");
+        // 10^17 + 1 = 1133 * 88261253309797
+        Check.faults(desk, "{pct(88261253309797,1133)}", 3, 0, "");
+        Check.faults(desk, "{pct(-1133,88261253309797)}", 3, 0, "");
         Check.faults(desk, "{pct(999999999999999,999999999999999)}", 3, 0, "");
     }
 

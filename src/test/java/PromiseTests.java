@@ -102,6 +102,10 @@ public final class PromiseTests {
         Check.due("twelve bytes", 2, Check.record(desk, 0, " !\"#$%&()*+,;-./:<=>?@[~{"));
         Check.due("signs", 3, Check.record(desk, 0, "-;--1"));
         Check.due("noughts first", 4, Check.record(desk, 0, "007;-000000000000009"));
+        String[] noneOfOne = {"a'b", "1;2", ";", "a\u0000", "1;2;3;4;5;6;7", "abcdefghijklm"};
+        for (String text : noneOfOne) {
+            Check.due("record of one " + text, Check.ARGUMENT, Check.record(desk, 1, text));
+        }
         Check.due("an empty text is an empty word", 0, Check.record(desk, 1, ""));
         Check.due("minus nought", 1, Check.record(desk, 1, "-0"));
         Check.due("15", "123456789012345", Check.number(desk, 0, 0, 0));
@@ -190,6 +194,27 @@ public final class PromiseTests {
         Check.due("merged", 1, desk.merge());
         Check.due("bad again", 2, Check.compile(desk, "{"));
         Check.due("what came out stays", "x", Check.out(desk));
+        Check.due("a good one", 0, Check.compile(desk, "{1}"));
+        Check.due("an empty one instead", 0, Check.compile(desk, ""));
+        Check.due("merges into nothing", 0, desk.merge());
+        Check.due("a block is open", 7, Check.compile(desk, "{if 1}"));
+        Check.due("not the next time", 0, Check.compile(desk, "x"));
+        Check.due("so there is none to end", 1, Check.compile(desk, "{end}"));
+        nothingBehindTheEnd(desk);
+    }
+
+    /** What an earlier, longer text had behind the END is not read. */
+    private static void nothingBehindTheEnd(MergeDesk desk) {
+        String[] whole = {"{1}", "{{", "{1>12}", "{abcd}", "{'a'}", "{1+2}", "{each a}{end}", "{f(1)}"};
+        for (String template : whole) {
+            Check.due(template, 0, Check.compile(desk, template));
+            for (int size = template.length() - 1; size > 0; size--) {
+                String cut = template.substring(0, size);
+                Check.due(cut + " behind " + template, size + 1,
+                        Check.compile(desk, cut));
+                Check.compile(desk, template);
+            }
+        }
     }
 
     private static void merges() {
