@@ -10,6 +10,14 @@ final class Check {
         Object answer();
     }
 
+    /** Makes the same desk each time; a case of its own has a desk of its own. */
+    interface Maker {
+        MergeDesk make();
+    }
+
+    /** So many bytes are asked of one desk, for an object is used for at most 512 calls. */
+    private static final int SLICE = 256;
+
     private static int wrong = 0;
     private static int looked = 0;
 
@@ -100,11 +108,19 @@ final class Check {
     }
 
     static String out(MergeDesk desk) {
+        return out(desk, 0, desk.size());
+    }
+
+    private static String out(MergeDesk desk, int from, int to) {
         StringBuilder out = new StringBuilder();
-        for (int i = 0; i < desk.size(); i++) {
+        for (int i = from; i < to; i++) {
             out.append((char) desk.out(i));
         }
         return out.toString();
+    }
+
+    static String merge(MergeDesk desk) {
+        return answer(desk::merge);
     }
 
     /** The template must compile and merge without a fault, into just this text. */
@@ -121,6 +137,29 @@ final class Check {
         due("out of " + template, before, out(desk));
     }
 
+    /** As with a desk, but each on a new one. */
+    static void prints(Maker maker, String template, String want) {
+        merges(maker, template, want.length(), want);
+    }
+
+    static void faults(Maker maker, String template, int fault, int place, String before) {
+        merges(maker, template, -(10000 * fault + place), before);
+    }
+
+    private static void merges(Maker maker, String template, int answer, String want) {
+        for (int from = 0; from == 0 || from < want.length(); from += SLICE) {
+            MergeDesk desk = maker.make();
+            due("compile " + template, 0, compile(desk, template));
+            due("merge " + template, answer, merge(desk));
+            due("size of " + template, want.length(), desk.size());
+            due("no byte more of " + template, INDEX, answer(() -> desk.out(want.length())));
+            if (desk.size() == want.length()) {
+                int to = Math.min(from + SLICE, want.length());
+                due("out of " + template, want.substring(from, to), out(desk, from, to));
+            }
+        }
+    }
+
     /** The template must be refused at this place. */
     static void refuses(String template, int place) {
         MergeDesk desk = new MergeDesk();
@@ -135,21 +174,30 @@ final class Check {
         due("tags of " + template, tags, desk.about(2));
     }
 
+    /** A desk with tables, each told with its records behind it: "t a b|1;2|3;4". */
+    static MergeDesk desk(String... told) {
+        MergeDesk desk = new MergeDesk();
+        for (int i = 0; i < told.length; i++) {
+            String[] texts = told[i].split("\\|", -1);
+            due("table " + texts[0], i, table(desk, texts[0]));
+            for (int k = 1; k < texts.length; k++) {
+                due("record " + texts[k], k - 1, record(desk, i, texts[k]));
+            }
+        }
+        return desk;
+    }
+
+    /** A table told with the records 0, 1, .. of one number each. */
+    static String counted(String table, int records) {
+        StringBuilder told = new StringBuilder(table);
+        for (int i = 0; i < records; i++) {
+            told.append('|').append(i);
+        }
+        return told.toString();
+    }
+
     /** Items, lines and a tax, as an invoice has them. */
     static MergeDesk shop() {
-        MergeDesk desk = new MergeDesk();
-        due("item", 0, table(desk, "item no name price"));
-        due("line", 1, table(desk, "line no qty"));
-        due("tax", 2, table(desk, "tax rate"));
-        String[] items = {"1;Pen;150", "2;Ink;2999", "3;;-5"};
-        String[] lines = {"2;3", "1;10", "2;1", "9;9"};
-        for (int i = 0; i < items.length; i++) {
-            due("item " + i, i, record(desk, 0, items[i]));
-        }
-        for (int i = 0; i < lines.length; i++) {
-            due("line " + i, i, record(desk, 1, lines[i]));
-        }
-        due("tax 0", 0, record(desk, 2, "19"));
-        return desk;
+        return desk("item no name price|1;Pen;150|2;Ink;2999|3;;-5", "line no qty|2;3|1;10|2;1|9;9", "tax rate|19");
     }
 }

@@ -183,10 +183,6 @@ final class Model {
         return out.charAt(i);
     }
 
-    String wholeOut() {
-        return out.toString();
-    }
-
     long variable() {
         if (variables.get(taken()) instanceof BigInteger n) {
             return n.longValue();

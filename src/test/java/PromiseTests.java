@@ -3,22 +3,31 @@ public final class PromiseTests {
 
     public static void main(String[] args) {
         newObject();
+        eachDeskAlone();
         typing();
+        typingLowestFirst();
+        typingUpTo600();
         tables();
         tableLimits();
         records();
         recordLimits();
         cells();
+        cellsOfFullTables();
         drops();
+        dropsOfFullTables();
         compiles();
         merges();
         outputs();
+        sizes();
         variables();
         abouts();
+        aboutEmptyAndFull();
         numbers();
+        numbersOfFullTables();
         Check.end();
     }
 
+    /** Promise 1: "No tables, no template, no output; the text is empty." */
     private static void newObject() {
         MergeDesk desk = new MergeDesk();
         for (int what = 0; what <= 4; what++) {
@@ -29,11 +38,35 @@ public final class PromiseTests {
         Check.due("new merge", Check.STATE, Check.answer(desk::merge));
         Check.due("new variable", Check.ELEMENT, Check.variable(desk, "a"));
         Check.due("new record", Check.INDEX, Check.record(desk, 0, "1"));
+        Check.due("new cell", Check.INDEX, Check.cell(desk, 0, 0, 0, "1"));
+        Check.due("new drop", Check.INDEX, Check.drop(desk, 0, 0));
+        Check.due("new number", Check.INDEX, Check.number(desk, 0, 0, 0));
         Check.due("new empty text is no table", Check.ARGUMENT, Check.answer(desk::table));
         Check.due("new empty text is a template", 0, desk.compile());
         Check.due("it merges into nothing", 0, desk.merge());
     }
 
+    /** Each object begins so, whatever another one has. */
+    private static void eachDeskAlone() {
+        MergeDesk one = Check.shop();
+        Check.prints(one, "{let a=1}abc", "abc");
+        Check.type(one, "text");
+        MergeDesk other = new MergeDesk();
+        for (int what = 0; what <= 4; what++) {
+            Check.due("about " + what, 0, other.about(what));
+        }
+        Check.due("size", 0, other.size());
+        Check.due("merge", Check.STATE, Check.merge(other));
+        Check.due("the text is empty", 0, other.compile());
+        Check.due("it merges into nothing", 0, other.merge());
+        Check.due("variable", Check.ELEMENT, Check.variable(other, "a"));
+        Check.due("its first table", 0, Check.table(other, "item x"));
+        Check.due("the other's output stays", "abc", Check.out(one));
+        Check.due("and its variable", Check.ELEMENT, Check.variable(one, "a"));
+        Check.due("behind its text", 1, Check.variable(one, "a"));
+    }
+
+    /** Promise 2: "False, changing nothing, when n is not 1 .. 8, or there would be more than 600." */
     private static void typing() {
         MergeDesk desk = new MergeDesk();
         int[] wrongCounts = {0, 9, -1, Integer.MIN_VALUE, Integer.MAX_VALUE};
@@ -57,6 +90,7 @@ public final class PromiseTests {
         Check.due("to one byte", 1, desk.merge());
     }
 
+    /** Promise 3: "its number. IllegalArgumentException when it is none, or its name is a table's already". */
     private static void tables() {
         MergeDesk desk = new MergeDesk();
         String[] none = {"", "a", "a ", " a", " a b", "a b ", "a  b", "A b", "a B", "a b1", "a,b", "a b b", "a b c b",
@@ -74,6 +108,7 @@ public final class PromiseTests {
         Check.due("seven of them are another name", 3, Check.table(desk, "abcdefg a"));
     }
 
+    /** Promise 3: "UnsupportedOperationException when there are 4." */
     private static void tableLimits() {
         MergeDesk desk = new MergeDesk();
         for (int i = 0; i < 4; i++) {
@@ -86,6 +121,7 @@ public final class PromiseTests {
         Check.due("four stay", 4, desk.about(0));
     }
 
+    /** Promise 4: "its number .. IllegalArgumentException when it is none". */
     private static void records() {
         MergeDesk desk = new MergeDesk();
         Check.table(desk, "t a b");
@@ -118,6 +154,7 @@ public final class PromiseTests {
         Check.prints(desk, "{each t a=' !\"#$%&()*+,'}{a}|{b}{end}", " !\"#$%&()*+,|-./:<=>?@[~{");
     }
 
+    /** Promise 4: "IndexOutOfBoundsException when there is no such table; .. UnsupportedOperationException when it has 16." */
     private static void recordLimits() {
         MergeDesk desk = new MergeDesk();
         Check.table(desk, "t a");
@@ -135,6 +172,7 @@ public final class PromiseTests {
         Check.due("it is the last", "99", Check.number(desk, 0, 15, 0));
     }
 
+    /** Promise 5: "IndexOutOfBoundsException when there is no such table, record or column; IllegalArgumentException .." */
     private static void cells() {
         MergeDesk desk = Check.shop();
         Check.due("a number", "void", Check.cell(desk, 0, 1, 2, "-42"));
@@ -160,6 +198,7 @@ public final class PromiseTests {
         Check.prints(desk, "{each item no=5}{name}{end}", "abcdefghijkl");
     }
 
+    /** Promise 6: "A record is gone; those behind it have one less as their numbers." */
     private static void drops() {
         MergeDesk desk = Check.shop();
         Check.due("no table", Check.INDEX, Check.drop(desk, 3, 0));
@@ -183,6 +222,7 @@ public final class PromiseTests {
         Check.due("which is a table", 3, desk.table());
     }
 
+    /** Promise 7: "0; or 1 more than the place of what is wrong (there is no template then)." */
     private static void compiles() {
         MergeDesk desk = new MergeDesk();
         Check.due("good", 0, Check.compile(desk, "a{b}{if c}{else}{end}"));
@@ -217,6 +257,7 @@ public final class PromiseTests {
         }
     }
 
+    /** Promise 8: "how many bytes came out; or, made negative, 10000 times the fault and the place". */
     private static void merges() {
         MergeDesk desk = Check.shop();
         Check.prints(desk, "{each line}{each item no=no}{qty>3} {name<5}{qty*price:2>8}\n{end}{end}",
@@ -230,6 +271,7 @@ public final class PromiseTests {
         Check.faults(desk, "ab{no}", 1, 2, "ab");
     }
 
+    /** Promises 9 and 10: what came out of the latest merge(). */
     private static void outputs() {
         MergeDesk desk = new MergeDesk();
         Check.prints(desk, "xyz", "xyz");
@@ -246,6 +288,7 @@ public final class PromiseTests {
         Check.due("size behind a fault", 2, desk.size());
     }
 
+    /** Promise 11: "NoSuchElementException when it was not set, or is a word." */
     private static void variables() {
         MergeDesk desk = new MergeDesk();
         Check.prints(desk, "{let a=5}{let b='w'}{let a=a*2}{let abcdefgh=-1}", "");
@@ -269,6 +312,7 @@ public final class PromiseTests {
         Check.due("a word now", Check.ELEMENT, Check.variable(desk, "a"));
     }
 
+    /** Promise 12: "IndexOutOfBoundsException for another what." */
     private static void abouts() {
         MergeDesk desk = Check.shop();
         Check.due("tables", 3, desk.about(0));
@@ -293,6 +337,7 @@ public final class PromiseTests {
         Check.due("set stays", 1, desk.about(4));
     }
 
+    /** Promise 13: "its value; NoSuchElementException when it is a word; IndexOutOfBoundsException ..". */
     private static void numbers() {
         MergeDesk desk = Check.shop();
         Check.due("a number", "2999", Check.number(desk, 0, 1, 2));
@@ -304,5 +349,170 @@ public final class PromiseTests {
         Check.type(desk, "kept a");
         Check.number(desk, 0, 0, 0);
         Check.due("number leaves the text", 3, desk.table());
+    }
+
+    /** Promise 2: "The n lowest bytes of w come behind the text, the lowest first." */
+    private static void typingLowestFirst() {
+        String all = "\u0001\u00ff\u0080\u0000\u007f\u0020ab";
+        long w = Check.packed(all, 0, 8);
+        for (int n = -2; n <= 10; n++) {
+            MergeDesk desk = Check.type(new MergeDesk(), "<");
+            boolean isTyped = n >= 1 && n <= 8;
+            Check.due("type of " + n, isTyped, desk.type(w, n));
+            Check.prints(desk, ">", "<" + (isTyped ? all.substring(0, n) : "") + ">");
+        }
+        MergeDesk desk = new MergeDesk();
+        desk.type(Long.MIN_VALUE, 8);
+        desk.type(Long.MAX_VALUE, 8);
+        desk.type(-1L, 8);
+        Check.prints(desk, "", "\0".repeat(7) + "\u0080" + "\u00ff".repeat(7) + "\u007f" + "\u00ff".repeat(8));
+    }
+
+    /** Promise 2: "or there would be more than 600": for every n the last that is taken and the first that is not. */
+    private static void typingUpTo600() {
+        for (int n = 1; n <= 8; n++) {
+            MergeDesk full = Check.type(new MergeDesk(), "x".repeat(600 - n));
+            Check.due("up to 600 by " + n, true, full.type(0x7878787878787878L, n));
+            Check.due("a byte more", false, full.type(0x78L, 1));
+            MergeDesk almost = Check.type(new MergeDesk(), "x".repeat(601 - n));
+            Check.due("up to 601 by " + n, false, almost.type(0x7878787878787878L, n));
+            if (n > 1) {
+                Check.due("up to 600 by " + (n - 1), true, almost.type(0x7878787878787878L, n - 1));
+            }
+            Check.due("a byte more", false, almost.type(0x78L, 1));
+            Check.due("it is 600 then", 501, almost.compile());
+            Check.due("and empty again", true, almost.type(0x78L, 1));
+        }
+        Check.prints(() -> {
+            MergeDesk desk = Check.type(new MergeDesk(), "x".repeat(499));
+            Check.due("nine would fit", false, desk.type(0x78L, 9));
+            return desk;
+        }, "y", "x".repeat(499) + "y");
+    }
+
+    private static MergeDesk fullTables() {
+        StringBuilder records = new StringBuilder();
+        for (int i = 0; i < 16; i++) {
+            records.append("|").append(i).append(";w;").append(-i).append(";;").append(i * i).append(";").append(100 + i);
+        }
+        return Check.desk("ta a b c d e f", "tb a", "tc a", "td a b c d e f" + records);
+    }
+
+    /** Promise 5 at the last table, record and column that there can be, and just beyond. */
+    private static void cellsOfFullTables() {
+        MergeDesk desk = fullTables();
+        Check.due("the last of all", "void", Check.cell(desk, 3, 15, 5, "-7"));
+        Check.due("the first of it", "void", Check.cell(desk, 3, 0, 0, "x"));
+        Check.due("beyond the tables", Check.INDEX, Check.cell(desk, 4, 15, 5, "1"));
+        Check.due("beyond the records", Check.INDEX, Check.cell(desk, 3, 16, 5, "1"));
+        Check.due("beyond the columns", Check.INDEX, Check.cell(desk, 3, 15, 6, "1"));
+        Check.due("a record before", Check.INDEX, Check.cell(desk, 3, -1, 5, "1"));
+        Check.due("a column before", Check.INDEX, Check.cell(desk, 3, 15, -1, "1"));
+        Check.due("a table before", Check.INDEX, Check.cell(desk, -1, 15, 5, "1"));
+        Check.due("a table without records", Check.INDEX, Check.cell(desk, 0, 0, 0, "1"));
+        Check.due("it is there", -7, Check.number(desk, 3, 15, 5));
+        Check.due("the one before it", 225, Check.number(desk, 3, 15, 4));
+        Check.due("the one above it", 114, Check.number(desk, 3, 14, 5));
+        Check.due("the first is a word", Check.ELEMENT, Check.number(desk, 3, 0, 0));
+        Check.due("the one behind it", 0, Check.number(desk, 3, 0, 2));
+        Check.due("the one below it", 1, Check.number(desk, 3, 1, 0));
+        Check.prints(desk, "{each td}{a}{f},{end}", "x100,1101,2102,3103,4104,5105,6106,7107,8108,9109,10110,11111,"
+                + "12112,13113,14114,15-7,");
+    }
+
+    /** Promise 6 for every record of a full table: just that one is gone. */
+    private static void dropsOfFullTables() {
+        for (int gone = 0; gone < 16; gone++) {
+            MergeDesk desk = fullTables();
+            Check.due("drop " + gone, "void", Check.drop(desk, 3, gone));
+            Check.due("records", 15, desk.about(1));
+            for (int record = 0; record < 15; record++) {
+                int was = record < gone ? record : record + 1;
+                Check.due("first column", was, Check.number(desk, 3, record, 0));
+                Check.due("a word", Check.ELEMENT, Check.number(desk, 3, record, 1));
+                Check.due("last column", 100 + was, Check.number(desk, 3, record, 5));
+            }
+            Check.due("no 16th", Check.INDEX, Check.number(desk, 3, 15, 0));
+            Check.due("none to drop there", Check.INDEX, Check.drop(desk, 3, 15));
+            Check.due("the last that there is", "void", Check.drop(desk, 3, 14));
+        }
+        MergeDesk desk = fullTables();
+        for (int left = 15; left >= 0; left--) {
+            Check.due("drop the first", "void", Check.drop(desk, 3, 0));
+            Check.due("left", left, desk.about(1));
+        }
+        Check.due("none is left", Check.INDEX, Check.drop(desk, 3, 0));
+        Check.due("a new first one", 0, Check.record(desk, 3, "1;2;3;4;5;6"));
+    }
+
+    /** Promise 9: "How many bytes came out of the latest merge()". */
+    private static void sizes() {
+        MergeDesk desk = new MergeDesk();
+        Check.due("none yet", 0, desk.size());
+        Check.prints(desk, "abc", "abc");
+        Check.due("three", 3, desk.size());
+        Check.compile(desk, "abcdef");
+        Check.due("compiling alone brings none", 3, desk.size());
+        Check.due("merged", 6, desk.merge());
+        Check.due("six", 6, desk.size());
+        Check.compile(desk, "{");
+        Check.due("merge is refused", Check.STATE, Check.merge(desk));
+        Check.due("still six", 6, desk.size());
+        Check.faults(desk, "ab{x}", 1, 2, "ab");
+        Check.due("two", 2, desk.size());
+        Check.faults(desk, "{x}", 1, 0, "");
+        Check.due("none", 0, desk.size());
+        Check.due("no byte", Check.INDEX, Check.answer(() -> desk.out(0)));
+        Check.prints(desk, "", "");
+    }
+
+    /** Promise 12: each of the five when there is none, one, and the most that there can be. */
+    private static void aboutEmptyAndFull() {
+        MergeDesk desk = new MergeDesk();
+        for (int i = 0; i <= 4; i++) {
+            Check.due("tables", i, desk.about(0));
+            Check.due("records", 16 * i, desk.about(1));
+            Check.table(desk, "t" + (char) ('a' + i) + " a");
+            for (int k = 0; i < 4 && k < 16; k++) {
+                Check.due("record", k, Check.record(desk, i, ""));
+            }
+        }
+        int[] tags = {0, 1, 2, 119, 120};
+        for (int count : tags) {
+            MergeDesk another = new MergeDesk();
+            Check.due("compile", 0, Check.compile(another, "{1}".repeat(count)));
+            Check.due("tags", count, another.about(2));
+            Check.due("none is done yet", 0, another.about(3));
+            Check.due("merge", count, another.merge());
+            Check.due("done", count, another.about(3));
+            Check.due("set", 0, another.about(4));
+            Check.due("too many", 361, Check.compile(another, "{1}".repeat(121)));
+            Check.due("none are left", 0, another.about(2));
+            Check.due("done still", count, another.about(3));
+        }
+        MergeDesk setting = new MergeDesk();
+        Check.prints(setting, "{let a=1}", "");
+        Check.due("one is set", 1, setting.about(4));
+        Check.prints(setting, "{let a=1}{let a=2}{let b='w'}", "");
+        Check.due("two are set", 2, setting.about(4));
+    }
+
+    /** Promise 13 at the last table, record and column that there can be, and just beyond. */
+    private static void numbersOfFullTables() {
+        MergeDesk desk = fullTables();
+        Check.due("the last of all", 115, Check.number(desk, 3, 15, 5));
+        Check.due("the first of it", 0, Check.number(desk, 3, 0, 0));
+        int[][] nowhere = {{4, 15, 5}, {3, 16, 5}, {3, 15, 6}, {-1, 15, 5}, {3, -1, 5}, {3, 15, -1}, {0, 0, 0}, {2, 0, 0},
+            {Integer.MIN_VALUE, 0, 0}, {3, Integer.MIN_VALUE, 0}, {3, 0, Integer.MIN_VALUE}, {Integer.MAX_VALUE, 0, 0},
+            {3, Integer.MAX_VALUE, 0}, {3, 0, Integer.MAX_VALUE}};
+        for (int[] at : nowhere) {
+            Check.due("nowhere", Check.INDEX, Check.number(desk, at[0], at[1], at[2]));
+        }
+        Check.due("a word", Check.ELEMENT, Check.number(desk, 3, 15, 1));
+        Check.due("an empty word", Check.ELEMENT, Check.number(desk, 3, 15, 3));
+        Check.due("the most", "void", Check.cell(desk, 3, 15, 5, "999999999999999"));
+        Check.due("is there", "999999999999999", Check.number(desk, 3, 15, 5));
+        Check.due("the least", "void", Check.cell(desk, 3, 15, 5, "-999999999999999"));
+        Check.due("is there", "-999999999999999", Check.number(desk, 3, 15, 5));
     }
 }
