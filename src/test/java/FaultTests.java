@@ -49,6 +49,8 @@ public final class FaultTests {
                 "{count(no)}", "{sum(x,no)}", "{sum(no,no)}");
         all(SHOP, 1, "{each item x=1}{end}", "{each item qty=1}{end}", "{each item item=1}{end}", "{sum(item,x)}",
                 "{sum(item,qty)}", "{sum(tax,no)}");
+        all(() -> Check.desk("t a b c d e f|1;2;3;4;5;6"), 1, "{each t g=1}{end}", "{sum(t,g)}", "{sum(t,t)}", "{a}");
+        all(() -> Check.desk("ta a", "tb a", "tc a", "td a"), 1, "{each te}{end}", "{sum(te,a)}", "{count(te)}");
         Check.faults(SHOP, "{let no=1}{sum(item,x)}", 1, 10, "");
         Check.faults(SHOP, "{let x=1}{each x}{end}", 1, 9, "");
         Check.faults(SHOP, "{let x=1}{each item x=1}{end}", 1, 9, "");

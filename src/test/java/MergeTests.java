@@ -222,6 +222,11 @@ public final class MergeTests {
         Check.faults(SHOP, "{each item}{qty}{end}", 1, 11, "");
         Check.prints(SHOP, "{each line no=9}{each line no=1}{qty}{end}{qty}{end}", "109");
         Check.prints(SHOP, "{each line no=9}{each tax}{no}{qty}{rate}{end}{end}", "9919");
+        Check.Maker six = () -> Check.desk("t a b c d e f|1;2;3;4;5;6");
+        Check.prints(six, "{let g=7}{let f=8}{each t}{a}{f}{g}{end}{f}", "1678");
+        Check.prints(six, "{each t f=6}{a}{end}{each t a=1}{f}{end}{sum(t,a)}{sum(t,f)}", "1616");
+        Check.faults(six, "{each t}{a}{g}{end}", 1, 11, "1");
+        Check.prints(() -> Check.desk("t a"), "{let a=7}{each t}{a}{end}{a}", "7");
     }
 
     private static void sixLoops() {
@@ -306,6 +311,7 @@ public final class MergeTests {
         for (int length = 0; length <= 12; length++) {
             Check.prints(EMPTY, "{len('" + "abcdefghijkl".substring(0, length) + "')}", "" + length);
         }
+        Check.prints(() -> Check.desk("t a||abcdefghijkl| "), "{each t}{len(a)};{let b=a}{len(b)},{end}", "0;0,12;12,1;1,");
         Check.prints(EMPTY, "{eq(1,1)}{eq(1,2)}{eq('a','a')}{eq('a','b')}{eq(1,'1')}{eq('1',1)}{eq('','')}{eq(0,'')}",
                 "10100010");
         Check.prints(EMPTY, "{eq(-1,1)}{eq(-0,0)}{eq('a','A')}{eq('a','a ')}{eq('abc','abd')}{eq('','a')}{eq(007,7)}",
