@@ -111,6 +111,7 @@ public final class FaultTests {
         Check.faults(SHOP, "ok{let a=1}{a}{a*999999999999999+2}", 3, 14, "ok1");
     }
 
+    /** "a number beyond 10^15": of products the first one beyond, and those that no long holds. */
     private static void rangesOfProducts() {
         all(EMPTY, 3, "{100000000*10000001}", "{-100000000*10000001}", "{100000000*-10000001}", "{31622777*31622777}",
                 "{999999999999999*2}", "{2*999999999999999}", "{999999999999999*999999999999999}",
@@ -242,6 +243,7 @@ public final class FaultTests {
                 (ten.repeat(4) + "ab").repeat(10).substring(0, 4000));
     }
 
+    /** "(the first 4000 come out)": within what a tag prints, at the { of that tag. */
     private static void outputOfTags() {
         String filled = "{each t}" + "x".repeat(399) + "{end}";
         String most = "x".repeat(3990);
@@ -325,6 +327,7 @@ public final class FaultTests {
         Check.faults(SIXTEEN, "{each t}".repeat(6) + "{end}".repeat(6), 5, 40, "");
     }
 
+    /** "a 3001st tag is to be done, before anything of it": whatever tag it is, and whatever is wrong in it. */
     private static void doneTagsOfEveryKind() {
         String[] fine = {"{''}", "{let b=1}", "{if 1}{end}", "{if 0}{1}{else}{end}", "{each t a=99}{x}{end}"};
         String[] faulty = {"{x}", "{let b='a'+1}", "{if div(1,0)}{end}", "{each nope}{end}", "{each t nope=1}{end}"};

@@ -60,6 +60,7 @@ public final class MergeTests {
         Check.prints(EMPTY, "{-9999:4}{-10000:4}", "-0.9999-1.0000");
     }
 
+    /** "so many digits behind a point (at least one before it)": on both sides of each power of ten. */
     private static void moneyByPoints() {
         String[] numbers = {"0", "1", "9", "10", "99", "100", "999", "1000", "9999", "10000", "99999", "100000",
             "999999999999999"};
@@ -82,6 +83,7 @@ public final class MergeTests {
         Check.prints(EMPTY, "[{-999999999999999-1:4>20}]", "[  -100000000000.0000]");
     }
 
+    /** "until there are W bytes": every W, with less, just as many, and more bytes than that. */
     private static void widthsByLength() {
         String[] exprs = {"''", "'a'", "'abcdefghijk'", "'abcdefghijkl'", "7", "-999999999999999", "-7:4",
             "-999999999999999-1:1"};
@@ -104,6 +106,7 @@ public final class MergeTests {
         Check.prints(SHOP, "{each tax}{each tax}{each tax}{rate}{end}{end}{end}", "19");
     }
 
+    /** "once for each record": none, one, and up to 16; in order, also when one was dropped. */
     private static void loopsByRecords() {
         for (int records = 0; records <= 16; records++) {
             String told = Check.counted("t a", records);
@@ -140,6 +143,7 @@ public final class MergeTests {
                 "{each t a=999999999999999}{a}{end}{each t a=999999999999999+1}{a}{end}", "999999999999999");
     }
 
+    /** "loops over records that are joined by keys". */
     private static void joins() {
         Check.prints(SHOP, "{each line}{each item no=no}{name}{qty} {end}{end}", "Ink3 Pen10 Ink1 ");
         Check.prints(SHOP, "{each item}{name}:{each line no=no}{qty} {end};{end}", "Pen:10 ;Ink:3 1 ;:;");
@@ -185,6 +189,7 @@ public final class MergeTests {
         Check.faults(SHOP, "{let a=a}", 1, 0, "");
     }
 
+    /** "the variable N has that value from then on": as many as a template has room for. */
     private static void manyVariables() {
         StringBuilder many = new StringBuilder();
         int count = 0;
@@ -229,6 +234,7 @@ public final class MergeTests {
         Check.prints(() -> Check.desk("t a"), "{let a=7}{each t}{a}{end}{a}", "7");
     }
 
+    /** "the innermost {each} that has such a column": through all six that can be open. */
     private static void sixLoops() {
         Check.Maker four = () -> Check.desk("ta a x|1;9", "tb b x|2;8", "tc c x|3;7", "td d x|4;6");
         Check.prints(four, "{each ta}{each tb}{each tc}{each td}{each ta}{each tb}{a}{b}{c}{d}{x}{end}{x}{end}{x}{end}"
@@ -247,6 +253,7 @@ public final class MergeTests {
         Check.prints(EMPTY, "{-------5}{(((((((6)))))))}{-(-(-(-7)))}", "-567");
     }
 
+    /** "FACTORS with * between": up to 10^15 and -10^15. */
     private static void products() {
         Check.prints(EMPTY, "{100000000*10000000}", MOST);
         Check.prints(EMPTY, "{-100000000*10000000}", "-" + MOST);
@@ -264,6 +271,7 @@ public final class MergeTests {
         Check.prints(EMPTY, "{pct(999,19)} {pct(0,5)} {pct(5,0)} {pct(200,50)}", "190 0 0 100");
     }
 
+    /** "rounded to the nearest, halves to the even one": every product from -260 to 260. */
     private static void percentsByProduct() {
         for (int product = -260; product <= 260; product++) {
             String due = BigDecimal.valueOf(product, 2).setScale(0, RoundingMode.HALF_EVEN).toPlainString();

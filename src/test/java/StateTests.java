@@ -145,6 +145,7 @@ public final class StateTests {
         }
     }
 
+    /** Promise 2: "or there would be more than 600". */
     private static void typingTooMuch() {
         for (int n = 1; n <= 8; n++) {
             int count = n;
@@ -153,6 +154,7 @@ public final class StateTests {
         }
     }
 
+    /** Promise 3: none, a name that is a table's already, and a fifth. */
     private static void tables() {
         String[] none = {"", "t", "t a a", "t a b c d e f g", "T a", "end a", "item a", "line no qty", "abcdefghi a"};
         for (String text : none) {
@@ -165,6 +167,7 @@ public final class StateTests {
         changesNothing(FULL, "ta c", "a name again, and full", Check.ARGUMENT, MergeDesk::table);
     }
 
+    /** Promise 4: no such table, none, and a 17th. */
     private static void records() {
         int[] nowhere = {2, 3, 4, -1, Integer.MAX_VALUE, Integer.MIN_VALUE};
         for (int table : nowhere) {
@@ -188,6 +191,7 @@ public final class StateTests {
         {1, 2, 0}, {0, 0, 3}, {0, 0, -1}, {0, 0, 6}, {1, 0, 2}, {Integer.MAX_VALUE, 0, 0}, {0, Integer.MAX_VALUE, 0},
         {0, 0, Integer.MAX_VALUE}, {Integer.MIN_VALUE, 0, 0}, {0, Integer.MIN_VALUE, 0}, {0, 0, Integer.MIN_VALUE}};
 
+    /** Promise 5: no such table, record or column, and none. */
     private static void cells() {
         for (int[] at : NO_CELLS) {
             changesNothing(WORKING, "7", "no cell", Check.INDEX, desk -> cell(desk, at[0], at[1], at[2]));
@@ -205,6 +209,7 @@ public final class StateTests {
         }
     }
 
+    /** Promise 6: no such table or record. */
     private static void drops() {
         int[][] nowhere = {{2, 0}, {-1, 0}, {0, 3}, {0, -1}, {1, 2}, {4, 0}, {0, Integer.MAX_VALUE},
             {0, Integer.MIN_VALUE}, {Integer.MAX_VALUE, 0}, {Integer.MIN_VALUE, 0}};
@@ -216,11 +221,13 @@ public final class StateTests {
         leavesAll(FULL, "kept ", "drop", Check.INDEX, desk -> drop(desk, 4, 15));
     }
 
+    /** Promise 8: "IllegalStateException when there is no template." */
     private static void merging() {
         leavesAll(FRESH, "kept ", "merge", Check.STATE, MergeDesk::merge);
         leavesAll(NO_TEMPLATE, "kept ", "merge", Check.STATE, MergeDesk::merge);
     }
 
+    /** Promise 10: before the first byte and behind the last. */
     private static void outputs() {
         int[] nowhere = {-1, 5, 4000, Integer.MAX_VALUE, Integer.MIN_VALUE};
         for (int i : nowhere) {
@@ -231,6 +238,7 @@ public final class StateTests {
         leavesAll(FAULTED, "kept ", "out 2", Check.INDEX, desk -> desk.out(2));
     }
 
+    /** Promise 11: not set, a word, and no name. */
     private static void variables() {
         String[] none = {"", "b", "d", "aa", "A", "a ", "abcdefghi", "each", "{a}", "no"};
         for (String name : none) {
@@ -241,6 +249,7 @@ public final class StateTests {
         changesNothing(FAULTED, "x", "variable x", Check.ELEMENT, MergeDesk::variable);
     }
 
+    /** Promise 12: "IndexOutOfBoundsException for another what." */
     private static void abouts() {
         int[] nothing = {-1, 5, 6, Integer.MAX_VALUE, Integer.MIN_VALUE};
         for (int what : nothing) {
@@ -249,6 +258,7 @@ public final class StateTests {
         }
     }
 
+    /** Promise 13: no such table, record or column, and a word. */
     private static void numbers() {
         for (int[] at : NO_CELLS) {
             leavesAll(WORKING, "kept ", "no cell", Check.INDEX, desk -> desk.number(at[0], at[1], at[2]));
